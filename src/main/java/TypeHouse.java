@@ -319,11 +319,14 @@ public final class TypeHouse {
 
     public int read(int sheet, int copy, int page, int place) {
         Sheet it = findSheet(sheet);
-        Page leaf = findPage(page);
-        if (it == null || leaf == null || !it.hasCopy(copy) || !it.hasPage(page) || !leaf.hasPlace(place)) {
+        Page on = findPage(page);
+        if (it == null || !it.hasCopy(copy) || on == null || !on.hasPlace(place)) {
             return NONE;
         }
-        return leaf.home.shownAt(leaf, place, copy);
+        if (on.home == null || !it.hasPage(page)) {
+            return NONE;
+        }
+        return on.home.shownAt(on, place, copy);
     }
 
     public int spoil(int sheet, int copy, int hand) {

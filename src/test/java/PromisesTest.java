@@ -149,6 +149,8 @@ public final class PromisesTest {
         c.due("BAD ahead of FULL", x.page(), BAD);
         c.due("page", Check.page(x, "ab"), FULL);
         c.due("tape stays", x.count(6), 2);
+        c.due("no page behind the last", x.set(48, 0), NONE);
+        c.due("no page behind the last", x.at(48, 0, 0), NONE);
         c.due("count", x.count(0), 48);
     }
 
@@ -360,6 +362,8 @@ public final class PromisesTest {
         c.due("NONE ahead of FULL", x.sheet(1, 45, 1), NONE);
         c.due("BAD ahead of FULL", x.sheet(1, 0, 0), BAD);
         c.due("count", x.count(2), 6);
+        c.due("no sheet behind the last", x.state(6, 0, 0), NONE);
+        c.due("no forme behind the last", x.impose(12, 0), NONE);
     }
 
     private static void fold() {
