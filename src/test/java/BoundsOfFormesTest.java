@@ -29,6 +29,7 @@ public final class BoundsOfFormesTest {
         test.forme();
         test.stateNumbers();
         test.statesOfImpressions();
+        test.corrections();
         test.readArguments();
         test.readAsPrinted();
         test.spoil();
@@ -604,6 +605,21 @@ public final class BoundsOfFormesTest {
             misset 2 0 0
             print 1 0 2
             state 0 0..2 1 = 1 1 0
+            """);
+    }
+
+    private void corrections() {
+        String sentence = "while a FORME is IMPOSED a place of a PAGE of it may be MISSET, too (back to the COPY also)";
+        cases.of("Terms 3", sentence, Cases.sheetOf(2), """
+            misset 0 0 2 = 0
+            print 0 0 1 = 1
+            faults 0 = 1
+            misset 0 0 0 = 2
+            faults 0 = 0
+            print 0 0 1 = 1
+            forme 0 3..4 = 1 2
+            state 0 0..1 0 = 0 1
+            read 0 0..1 0 0 = 2 0
             """);
     }
 

@@ -255,8 +255,7 @@ public final class RefusalsTest {
             job 1 1 -1,501 ! BAD
             job 1 1 1 ! FULL
             """);
-        cases.of("6, 35 planned", "NONE there is no such LETTER, PAGE, place, HAND, SHEET, side, FORME, SKELETON, COPY, "
-            + "BOOK, JOB, what, i", """
+        cases.of("6, 35 planned", "SHEET, side, FORME, SKELETON, COPY, BOOK, JOB, what, i", """
             job 1 1 1
             plan = 1
             planned 1 2 ! NONE
